@@ -10,6 +10,8 @@ public final class HistoryTest {
         fourAreKept();
         everyActIsKept();
         everythingIsRestored();
+        countsAndFloodsAreRestored();
+        addAfterUndoIsNew();
         looksAreNoActs();
         fingerprintOfANewDesk();
         fingerprintByItsNumbers();
@@ -91,6 +93,78 @@ public final class HistoryTest {
         desk.undo();
         desk.undo();
         Check.due("time after undos", desk.plant(0), 1);
+    }
+
+    private static void countsAndFloodsAreRestored() {
+        AlarmDesk desk = new AlarmDesk();
+        desk.add(0, 3);
+        desk.add(0, 3);
+        desk.add(0, 3);
+        desk.set(2, 3, 5);
+        desk.setFlood(20, 1, 0);
+        desk.tick(3);
+        desk.tick(2);
+        desk.setValue(2, -1);
+        Check.due("count", desk.point(2, 11), 5);
+        desk.undo();
+        desk.undo();
+        Check.due("count after undo", desk.point(2, 11), 3);
+        Check.due("the flood", desk.point(0, 15), 4);
+        desk.setFlood(1, 50, 50);
+        desk.tick(5);
+        Check.due("no flood", desk.plant(2), 0);
+        desk.setFlood(20, 1, 0);
+        desk.tick(1);
+        Check.due("another flood", desk.plant(2), 1);
+        Check.due("that began later", desk.point(0, 15), 0);
+        Check.due("undo()", desk.undo(), 3);
+        desk.undo();
+        desk.undo();
+        Check.due("the first flood again", desk.point(0, 15), 4);
+        desk.undo();
+        Check.due("and again", desk.point(0, 15), 4);
+    }
+
+    private static void addAfterUndoIsNew() {
+        int[] due = {0, 7, 0, 0, 0, 4, 0, 0, -1, 0, 1, 0, 0, 0, 0, AlarmDesk.NONE};
+        for (int acts = 0; acts <= 4; acts++) {
+            for (int undos = 0; undos <= acts; undos++) {
+                AlarmDesk desk = deskWithPointsUndone(acts, undos);
+                String after = " after " + acts + " acts and " + undos + " undos";
+                Check.due("add()" + after, desk.add(7, 4), 0);
+                for (int what = 0; what <= 15; what++) {
+                    Check.due("point(0, " + what + ")" + after, desk.point(0, what), due[what]);
+                }
+                Check.due("values of a new point" + after, desk.replay(0, 0), 0);
+                desk.set(0, 1, 0);
+                desk.tick(1);
+                Check.due("one value" + after, desk.replay(0, 0), 1);
+                desk.set(0, 3, 1);
+                Check.due("and no other" + after, desk.replay(0, 0), 0);
+            }
+        }
+    }
+
+    /** No point is left, but many a row inside has held one. */
+    private static AlarmDesk deskWithPointsUndone(int acts, int undos) {
+        AlarmDesk desk = new AlarmDesk();
+        for (int round = 0; round < 3; round++) {
+            desk.add(100, 3);
+            desk.set(0, 0, 1);
+            desk.set(0, 4, 5);
+            Check.run(desk, "set 0=-9;tick 3;shelve 0:20;set 0=500;tick 2");
+            for (int k = 0; k < 4; k++) {
+                desk.undo();
+            }
+            Check.due("points()", desk.points(), 0);
+            for (int k = 0; k < acts; k++) {
+                desk.setState(k % 4);
+            }
+            for (int k = 0; k < undos; k++) {
+                desk.undo();
+            }
+        }
+        return desk;
     }
 
     private static void looksAreNoActs() {

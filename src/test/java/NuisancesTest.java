@@ -50,6 +50,12 @@ public final class NuisancesTest {
         Check.due("with the delay off 2", desk.replay(0, 0), 1);
         desk.set(0, 3, 3);
         Check.due("with the delay on 3", desk.replay(0, 0), 0);
+        AlarmDesk ends = deskWithValues(5, 5, 0, 0, 5, 0, 0, 0, 5, 5);
+        ends.set(0, 4, 2);
+        Check.due("the count begins anew in alarm", ends.replay(0, 0), 2);
+        ends.set(0, 4, 0);
+        ends.set(0, 3, 1);
+        Check.due("the count begins anew after an alarm", ends.replay(0, 0), 1);
     }
 
     private static void replayedLow() {

@@ -6,6 +6,7 @@ public final class OperatorTest {
         ackRefused();
         ackOfHiddenPoint();
         ackedAll();
+        ackAllLeavesHiddenPoints();
         ackAllOfNone();
         shelved();
         shelveRefused();
@@ -83,6 +84,26 @@ public final class OperatorTest {
         Check.due("undo()", desk.undo(), 3);
         Check.due("count(7) after undo", desk.count(7), 4);
         Check.due("meanAck() after undo", desk.meanAck(), 2);
+    }
+
+    private static void ackAllLeavesHiddenPoints() {
+        AlarmDesk desk = deskInAlarm(4, 2);
+        desk.shelve(0, 9);
+        Check.due("list(2)", desk.list(2), 3);
+        desk.shelve(3, 9);
+        Check.due("ackAll()", desk.ackAll(), 2);
+        Check.due("point(0, 10)", desk.point(0, 10), 0);
+        Check.due("point(3, 10)", desk.point(3, 10), 0);
+        desk.setState(1);
+        desk.set(1, 6, 2);
+        desk.set(2, 6, 2);
+        desk.setState(0);
+        desk.unshelve(3);
+        Check.due("ackAll() again", desk.ackAll(), 1);
+        Check.due("point(0, 10)", desk.point(0, 10), 0);
+        AlarmDesk one = deskInAlarm(2, 2);
+        one.shelve(0, 9);
+        Check.due("ackAll() with the point 0 on the shelf", one.ackAll(), 1);
     }
 
     private static void ackAllOfNone() {

@@ -19,6 +19,7 @@ public final class PlantTest {
         reasonsInOrder();
         highestPriorityIsNeverHidden();
         floodBeginsAndEnds();
+        floodEndsBelowLow();
         floodHides();
         rateByWindow();
         numbersOfThePlant();
@@ -318,6 +319,20 @@ public final class PlantTest {
         Check.due("looked at by a tick alone", desk.plant(2), 0);
         desk.tick(1);
         Check.due("flood again", desk.plant(2), 1);
+    }
+
+    private static void floodEndsBelowLow() {
+        AlarmDesk desk = new AlarmDesk();
+        for (int k = 0; k < 4; k++) {
+            desk.add(0, 2);
+        }
+        desk.setFlood(3, 3, 2);
+        desk.tick(3);
+        Check.due("rate 4", desk.plant(3), 4);
+        Check.due("still a flood", desk.plant(2), 1);
+        desk.tick(1);
+        Check.due("rate 0", desk.plant(3), 0);
+        Check.due("no flood below low", desk.plant(2), 0);
     }
 
     private static void floodHides() {

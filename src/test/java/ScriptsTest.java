@@ -5,6 +5,7 @@ public final class ScriptsTest {
         typed();
         cleared();
         errorPlaces();
+        errorPlacesBehindTheEnd();
         goodScripts();
         carriedOut();
         mostCommands();
@@ -92,6 +93,21 @@ public final class ScriptsTest {
         place("stack 0", 3);
         place("settick 0", 3);
         place("states 0", 5);
+    }
+
+    /** What was in the buffer before it was emptied does not count. */
+    private static void errorPlacesBehindTheEnd() {
+        String full = "set 0=-1;shelve 0:12345;tick 1";
+        for (int k = 0; k < full.length(); k++) {
+            AlarmDesk fresh = new AlarmDesk();
+            fresh.add(0, 2);
+            AlarmDesk desk = new AlarmDesk();
+            desk.add(0, 2);
+            Check.run(desk, full);
+            String part = full.substring(0, k);
+            Check.due("run() of '" + part + "' behind another", Check.run(desk, part),
+                    Check.run(fresh, part));
+        }
     }
 
     private static boolean isDigitLast(String text, int k) {
