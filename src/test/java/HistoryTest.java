@@ -123,6 +123,18 @@ public final class HistoryTest {
         Check.due("the first flood again", desk.point(0, 15), 4);
         desk.undo();
         Check.due("and again", desk.point(0, 15), 4);
+        AlarmDesk late = new AlarmDesk();
+        late.add(0, 3);
+        late.setFlood(1, 1, 0);
+        late.tick(3);
+        late.add(0, 3);
+        late.add(0, 3);
+        late.tick(1);
+        late.setState(1);
+        late.undo();
+        Check.due("the flood after undo", late.plant(2), 1);
+        Check.due("an activation before the flood", late.point(0, 15), 0);
+        Check.due("an activation in the flood", late.point(1, 15), 4);
     }
 
     private static void addAfterUndoIsNew() {
