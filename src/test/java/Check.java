@@ -1,73 +1,149 @@
-/** What the tests of the project share: answers are compared, counted, and told if wrong. */
+/** What the tests share: answers are compared, counted, and told with their promise if wrong. */
 final class Check {
 
-    interface Call {
-        long answer();
+    interface Maker {
+        Desk make();
     }
 
+    interface Call {
+        long on(Desk desk);
+    }
+
+    interface NumberCall {
+        long on(Desk desk, int number);
+    }
+
+    private static final int HISTORY = 4;
+
+    private static String promise = "";
     private static int right;
     private static int wrong;
 
     private Check() {
     }
 
+    /** Says which promise the checks from here on belong to. */
+    static void promise(int number, String name) {
+        about("Promise " + number + " (" + name + ")");
+    }
+
+    static void about(String what) {
+        promise = what + ": ";
+    }
+
     static void due(String call, double got, double want) {
-        if (got == want) {
-            right++;
-            return;
-        }
-        wrong++;
-        System.out.println(call + " answered " + got + ", due is " + want);
+        tell(got == want, call, String.valueOf(got), String.valueOf(want));
     }
 
     static void due(String call, long got, long want) {
-        if (got == want) {
+        tell(got == want, call, String.valueOf(got), String.valueOf(want));
+    }
+
+    private static void tell(boolean same, String call, String got, String want) {
+        if (same) {
             right++;
             return;
         }
         wrong++;
-        System.out.println(call + " answered " + got + ", due is " + want);
+        System.out.println(promise + call + " answered " + got + ", due is " + want);
     }
 
-    /** The call answers with an error, and nothing that can be looked at is another afterwards. */
-    static void refused(AlarmDesk desk, String call, long want, Call made) {
-        long print = desk.fingerprint();
-        float mean = desk.meanAck();
-        due(call, made.answer(), want);
-        due("fingerprint() after " + call, desk.fingerprint(), print);
-        due("meanAck() after " + call, desk.meanAck(), mean);
+    /** The call answers with the error, and no later call shows that it was made. */
+    static void refused(String call, long error, Maker maker, Call made) {
+        Desk desk = maker.make();
+        due(call, made.on(desk), error);
+        sameFromNowOn("after the refused " + call, desk, maker.make());
+        Desk again = maker.make();
+        made.on(again);
+        samePast("after the refused " + call, again, maker.make(), HISTORY);
     }
 
-    /** Undoes all; says that the history held so many acts. */
-    static void history(AlarmDesk desk, String after, int acts) {
-        for (int left = acts - 1; left >= 0; left--) {
-            due("undo() after " + after, desk.undo(), left);
+    /** The next numbers outside the range, and the farthest ones, are refused with BAD. */
+    static void outside(String call, int least, int most, Maker maker, NumberCall made) {
+        for (int x : new int[] {least - 1, most + 1, Integer.MIN_VALUE, Integer.MAX_VALUE}) {
+            refused(call + " of " + x, AlarmDesk.BAD, maker, desk -> made.on(desk, x));
         }
-        due("last undo() after " + after, desk.undo(), AlarmDesk.NONE);
+    }
+
+    /** No point has the number, on desks with no point, with some, and with all points. */
+    static void outsideThePoints(String call, NumberCall made) {
+        outside(call + " with five points,", 0, 4, Desks::busy, made);
+        outside(call + " with 16 points,", 0, 15, Desks::full, made);
+        outside(call + " without points,", 0, -1, Desks::fresh, made);
+    }
+
+    /** The call answers so and is one act: undo() takes just it back. */
+    static void oneAct(String call, long want, Maker maker, Call made) {
+        int states = statesOf(maker.make());
+        int left = Math.min(states, HISTORY - 1);
+        Desk desk = maker.make();
+        due(call, made.on(desk), want);
+        due("undo() of " + call, desk.undo(), left);
+        sameFromNowOn("after " + call + " and undo()", desk, maker.make());
+        Desk again = maker.make();
+        made.on(again);
+        again.undo();
+        samePast("after " + call + " and undo()", again, maker.make(), left);
+        due("undo() of no act", again.undo(), AlarmDesk.NONE);
+    }
+
+    /** How many states the history of the desk has; none is left then. */
+    static int statesOf(Desk desk) {
+        int states = 0;
+        while (desk.undo() != AlarmDesk.NONE) {
+            states++;
+        }
+        return states;
+    }
+
+    /** The two desks answer alike to all that looks, and to some acts. */
+    static void sameFromNowOn(String when, Desk desk, Desk twin) {
+        sameLooks(when, desk, twin);
+        due("run() " + when, desk.run(), twin.run());
+        due("clear() " + when, desk.clear(), twin.clear());
+        due("setFlood() " + when, desk.setFlood(60, 50, 0), twin.setFlood(60, 50, 0));
+        due("the rate " + when, desk.plant(3), twin.plant(3));
+        due("tick() " + when, desk.tick(1), twin.tick(1));
+        due("ackAll() " + when, desk.ackAll(), twin.ackAll());
+        sameLooks("later " + when, desk, twin);
+    }
+
+    private static void sameLooks(String when, Desk desk, Desk twin) {
+        due("fingerprint() " + when, desk.fingerprint(), twin.fingerprint());
+        due("meanAck() " + when, desk.meanAck(), twin.meanAck());
+        int points = twin.points();
+        for (int k = 0; k < points; k++) {
+            due("list() " + when, desk.list(k), twin.list(k));
+            due("replay() " + when, desk.replay(k, 0), twin.replay(k, 0));
+            due("leastDeadband() " + when, desk.leastDeadband(k, 1), twin.leastDeadband(k, 1));
+        }
+    }
+
+    /** So many states of the histories are the same; of the twin's there may be one more. */
+    private static void samePast(String when, Desk desk, Desk twin, int states) {
+        for (int k = 0; k < states; k++) {
+            int twins = twin.undo();
+            int due = twins == AlarmDesk.NONE ? twins : Math.min(twins, states - 1 - k);
+            due("undo() " + when, desk.undo(), due);
+            due("fingerprint() then, " + when, desk.fingerprint(), twin.fingerprint());
+            due("meanAck() then, " + when, desk.meanAck(), twin.meanAck());
+        }
     }
 
     /** The latest event, as a call of event() for each of its numbers. */
-    static void latestEvent(AlarmDesk desk, String after, int time, int kind, int point) {
-        due("event(0, 0) after " + after, desk.event(0, 0), time);
-        due("event(0, 1) after " + after, desk.event(0, 1), kind);
-        due("event(0, 2) after " + after, desk.event(0, 2), point);
+    static void latestEvent(Desk desk, String after, int time, int kind, int point) {
+        eventIs(desk, after, 0, time, kind, point);
     }
 
-    static void type(AlarmDesk desk, String script) {
-        for (int k = 0; k < script.length(); k++) {
-            desk.type(script.charAt(k));
-        }
-    }
-
-    static int run(AlarmDesk desk, String script) {
-        desk.clear();
-        type(desk, script);
-        return desk.run();
+    static void eventIs(Desk desk, String after, int i, int time, int kind, int point) {
+        due("event(" + i + ", 0) after " + after, desk.event(i, 0), time);
+        due("event(" + i + ", 1) after " + after, desk.event(i, 1), kind);
+        due("event(" + i + ", 2) after " + after, desk.event(i, 2), point);
     }
 
     static void end() {
         System.out.println(right + " passed, " + wrong + " failed");
-        if (wrong != 0) {
+        if (wrong != 0 || right == 0) {
             System.exit(1);
         }
     }

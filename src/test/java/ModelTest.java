@@ -4,12 +4,13 @@
  */
 public final class ModelTest {
 
-    private static final int RUNS = 600;
-    private static final int CALLS = 512;
+    private static final int RUNS = 1500;
+    /** A script and what looks at it, then the calls at the end. */
+    private static final int MOST_CALLS_OF_A_STEP = 120;
 
     private final Draw draw;
     private final int run;
-    private final AlarmDesk desk = new AlarmDesk();
+    private final Desk desk = new Desk();
     private final ModelDesk model = new ModelDesk();
 
     private ModelTest(int run) {
@@ -46,6 +47,7 @@ public final class ModelTest {
     }
 
     public static void main(String[] args) {
+        Check.about("Promises 1 to 28");
         for (int run = 0; run < RUNS; run++) {
             new ModelTest(run).calls();
         }
@@ -57,11 +59,16 @@ public final class ModelTest {
         for (int k = 0; k < points; k++) {
             add();
         }
-        for (int k = points; k < CALLS; k++) {
+        while (desk.callsLeft() >= MOST_CALLS_OF_A_STEP) {
             boolean act = call();
-            if (act || draw.oneIn(10)) {
+            if (act && draw.oneIn(4)) {
                 due("fingerprint()", desk.fingerprint(), model.fingerprint());
             }
+        }
+        for (int k = 0; k < 5; k++) {
+            due("fingerprint()", desk.fingerprint(), model.fingerprint());
+            due("meanAck", desk.meanAck(), model.meanAck());
+            due("last undo()", desk.undo(), model.undo());
         }
     }
 
@@ -74,8 +81,8 @@ public final class ModelTest {
     }
 
     private int point() {
-        return draw.oneIn(60) ? draw.anyOf(-1, 16, 99, desk.points())
-                : draw.below(Math.max(1, desk.points()));
+        return draw.oneIn(60) ? draw.anyOf(-1, 16, 99, model.points())
+                : draw.below(Math.max(1, model.points()));
     }
 
     private int value() {
@@ -277,7 +284,7 @@ public final class ModelTest {
     }
 
     private String point(int zeros) {
-        int point = draw.below(Math.max(1, desk.points() + (draw.oneIn(9) ? 2 : zeros)));
+        int point = draw.below(Math.max(1, model.points() + (draw.oneIn(9) ? 2 : zeros)));
         return draw.oneIn(9) ? "00" + point : "" + point;
     }
 

@@ -1,0 +1,45 @@
+/** Promise 8: setState. */
+public final class Promise08SetStateTest {
+
+    public static void main(String[] args) {
+        Check.promise(8, "setState");
+        leastAndMost();
+        outsideTheRange();
+        isAnAct();
+        leavesAllElse();
+        Check.end();
+    }
+
+    private static void leastAndMost() {
+        Desk desk = new Desk();
+        Check.due("plant(1)", desk.plant(1), 0);
+        int previous = 0;
+        for (int state : new int[] {3, 0, 0, 1, 2, 2, 3, 3}) {
+            Check.due("setState(" + state + ")", desk.setState(state), previous);
+            Check.due("plant(1)", desk.plant(1), state);
+            previous = state;
+        }
+    }
+
+    private static void outsideTheRange() {
+        Check.outside("setState()", 0, 3, Desks::busy, (d, x) -> d.setState(x));
+        Check.outside("setState()", 0, 3, Desks::fresh, (d, x) -> d.setState(x));
+    }
+
+    private static void isAnAct() {
+        for (int state = 0; state <= 3; state++) {
+            int s = state;
+            Check.oneAct("setState(" + s + ") in the state 2", 2, Desks::busy, d -> d.setState(s));
+            Check.oneAct("first setState(" + s + ")", 0, Desks::fresh, d -> d.setState(s));
+        }
+    }
+
+    private static void leavesAllElse() {
+        Desk desk = Desks.inAlarm(1, 2);
+        int events = desk.events();
+        desk.setState(3);
+        Check.due("events()", desk.events(), events);
+        Check.due("plant(0)", desk.plant(0), 1);
+        Check.due("point(0, 9)", desk.point(0, 9), 1);
+    }
+}
