@@ -1,3 +1,9 @@
+import java.util.Arrays;
+import java.util.LinkedHashMap;
+import java.util.List;
+import java.util.Map;
+import java.util.Objects;
+
 /** What the tests share: answers are compared, counted, and told with their promise if wrong. */
 final class Check {
 
@@ -85,6 +91,39 @@ final class Check {
         again.undo();
         samePast("after " + call + " and undo()", again, maker.make(), left);
         due("undo() of no act", again.undo(), AlarmDesk.NONE);
+    }
+
+    /** The call changes just these of the numbers of the plant and of the points that there are. */
+    static void changesOnly(String call, Maker maker, Call made, String... due) {
+        Desk desk = maker.make();
+        int points = desk.points();
+        made.on(desk);
+        Map<String, Number> after = numbers(desk, points);
+        Map<String, Number> before = numbers(maker.make(), points);
+        List<String> changes = Arrays.asList(due);
+        for (String number : before.keySet()) {
+            boolean changed = !Objects.equals(before.get(number), after.get(number));
+            String does = changes.contains(number) ? " changes " : " leaves ";
+            due(call + does + number, changed ? 1 : 0, changes.contains(number) ? 1 : 0);
+        }
+        due("known numbers of " + call, before.keySet().containsAll(changes) ? 1 : 0, 1);
+    }
+
+    private static Map<String, Number> numbers(Desk desk, int points) {
+        Map<String, Number> numbers = new LinkedHashMap<>();
+        for (int what = 0; what <= 4; what++) {
+            numbers.put("plant(" + what + ")", desk.plant(what));
+        }
+        numbers.put("points()", desk.points());
+        for (int k = 0; k < points; k++) {
+            for (int what = 0; what <= 15; what++) {
+                numbers.put("point(" + k + ", " + what + ")", desk.point(k, what));
+            }
+            numbers.put("replay(" + k + ")", desk.replay(k, 0));
+        }
+        numbers.put("events()", desk.events());
+        numbers.put("meanAck()", desk.meanAck());
+        return numbers;
     }
 
     /** How many states the history of the desk has; none is left then. */

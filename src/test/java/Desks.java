@@ -59,6 +59,15 @@ final class Desks {
         return desk;
     }
 
+    /** 0 and 1 are in alarm since 1; 1 counts towards the end of its alarm. */
+    static Desk inAlarmAndCounting() {
+        Desk desk = inAlarm(2, 2);
+        desk.set(1, 4, 9);
+        desk.setValue(1, -1);
+        desk.tick(3);
+        return desk;
+    }
+
     static void tickTo(Desk desk, int time) {
         int at = desk.plant(0);
         while (at < time) {

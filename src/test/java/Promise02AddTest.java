@@ -85,15 +85,8 @@ public final class Promise02AddTest {
     }
 
     private static void leavesTheOthers() {
-        Desk desk = Desks.busy();
-        int[] before = new int[16];
-        for (int what = 0; what <= 15; what++) {
-            before[what] = desk.point(1, what);
-        }
-        desk.add(3, 4);
-        for (int what = 0; what <= 15; what++) {
-            Check.due("point(1, " + what + ")", desk.point(1, what), before[what]);
-        }
+        Check.changesOnly("add(0, 1)", Desks::busy, d -> d.add(0, 1), "points()");
+        Check.changesOnly("add(100, 4)", Desks::busy, d -> d.add(100, 4), "points()");
     }
 
     private static void laterPointBeginsAnew() {

@@ -58,17 +58,17 @@ public final class Promise03SetTest {
 
     private static void leavesOtherSettings() {
         for (int setting = 0; setting <= 6; setting++) {
-            Desk desk = new Desk();
-            desk.add(100, 3);
-            desk.add(100, 3);
-            desk.set(0, setting, MOST[setting]);
-            int[] first = {0, 100, 0, 0, 0, 3, 0, 0, -1};
-            for (int other = 0; other <= 8; other++) {
-                int due = other == setting ? MOST[setting] : first[other];
-                Check.due("point(0, " + other + ")", desk.point(0, other), due);
-                Check.due("point(1, " + other + ")", desk.point(1, other), first[other]);
-            }
+            int s = setting;
+            Check.changesOnly("set(2, " + s + ", ..)", Desks::busy, d -> d.set(2, s, MOST[s]),
+                    "point(2, " + s + ")");
         }
+        Check.changesOnly("set() as it was", Desks::busy, d -> d.set(2, 1, 5));
+        Check.changesOnly("set(2, 3, 2)", Desks::busy, d -> d.set(2, 3, 2), "point(2, 3)",
+                "replay(2)");
+        Check.changesOnly("set(3, 6, 4)", Desks::busy, d -> d.set(3, 6, 4), "point(3, 6)",
+                "point(3, 15)");
+        Check.changesOnly("set(1, 5, 1)", Desks::busy, d -> d.set(1, 5, 1), "point(1, 5)",
+                "point(1, 13)", "point(1, 15)", "events()");
     }
 
     private static void leavesCountAndAlarm() {

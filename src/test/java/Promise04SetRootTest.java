@@ -12,6 +12,7 @@ public final class Promise04SetRootTest {
         chainThatWasCut();
         badBeforeState();
         isAnAct();
+        leavesAllElse();
         Check.end();
     }
 
@@ -40,7 +41,8 @@ public final class Promise04SetRootTest {
     private static void outsideTheRanges() {
         Check.outsideThePoints("setRoot() of the point", (d, x) -> d.setRoot(x, -1));
         Check.outside("setRoot() to", -1, 4, Desks::busy, (d, x) -> d.setRoot(2, x));
-        Check.outside("setRoot() with 16 points to", -1, 15, Desks::full, (d, x) -> d.setRoot(2, x));
+        Check.outside("setRoot() with 16 points to", -1, 15, Desks::full,
+                (d, x) -> d.setRoot(2, x));
     }
 
     private static void ownRoot() {
@@ -120,6 +122,14 @@ public final class Promise04SetRootTest {
         Check.oneAct("setRoot(3, -1)", 0, Desks::busy, d -> d.setRoot(3, -1));
         Check.oneAct("setRoot(3, 0) as it was", 0, Desks::busy, d -> d.setRoot(3, 0));
         Check.oneAct("setRoot(2, -1) as it was", -1, Desks::busy, d -> d.setRoot(2, -1));
-        Check.oneAct("third act", -1, () -> Desks.withPoints(2), d -> d.setRoot(0, 1));
+        Check.oneAct("a first root", -1, () -> Desks.withPoints(2), d -> d.setRoot(0, 1));
+    }
+
+    private static void leavesAllElse() {
+        Check.changesOnly("setRoot(3, 1)", Desks::busy, d -> d.setRoot(3, 1), "point(3, 8)");
+        Check.changesOnly("setRoot(3, -1)", Desks::busy, d -> d.setRoot(3, -1), "point(3, 8)",
+                "point(3, 15)");
+        Check.changesOnly("setRoot(2, 0)", Desks::busy, d -> d.setRoot(2, 0), "point(2, 8)");
+        Check.changesOnly("setRoot(3, 0) as it was", Desks::busy, d -> d.setRoot(3, 0));
     }
 }

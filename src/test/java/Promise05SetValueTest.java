@@ -7,6 +7,7 @@ public final class Promise05SetValueTest {
         outsideTheRanges();
         isAnAct();
         leavesOtherValues();
+        leavesAllElse();
         countsAtTheNextTickAlone();
         Check.end();
     }
@@ -51,6 +52,18 @@ public final class Promise05SetValueTest {
         for (int k = 0; k < 16; k++) {
             Check.due("point(" + k + ", 7)", desk.point(k, 7), k + 1);
         }
+    }
+
+    /** The points 0 and 3 are in alarm, and 2 counts. */
+    private static void leavesAllElse() {
+        for (int value : new int[] {-10000, 6, 10000}) {
+            for (int point = 0; point < 5; point++) {
+                int p = point;
+                Check.changesOnly("setValue(" + p + ", " + value + ")", Desks::busy,
+                        d -> d.setValue(p, value), "point(" + p + ", 7)");
+            }
+        }
+        Check.changesOnly("setValue(2, 5) as it was", Desks::busy, d -> d.setValue(2, 5));
     }
 
     private static void countsAtTheNextTickAlone() {

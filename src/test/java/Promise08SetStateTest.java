@@ -35,11 +35,10 @@ public final class Promise08SetStateTest {
     }
 
     private static void leavesAllElse() {
-        Desk desk = Desks.inAlarm(1, 2);
-        int events = desk.events();
-        desk.setState(3);
-        Check.due("events()", desk.events(), events);
-        Check.due("plant(0)", desk.plant(0), 1);
-        Check.due("point(0, 9)", desk.point(0, 9), 1);
+        for (int state : new int[] {0, 1, 3}) {
+            Check.changesOnly("setState(" + state + ")", Desks::busy, d -> d.setState(state),
+                    "plant(1)");
+        }
+        Check.changesOnly("setState(2) as it was", Desks::busy, d -> d.setState(2));
     }
 }

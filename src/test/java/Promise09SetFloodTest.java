@@ -7,6 +7,7 @@ public final class Promise09SetFloodTest {
         outsideTheRanges();
         lowByTheNewHigh();
         isAnAct();
+        leavesAllElse();
         floodIsLookedAtByTicksAlone();
         Check.end();
     }
@@ -52,6 +53,13 @@ public final class Promise09SetFloodTest {
         Check.oneAct("setFlood(20, 2, 1) as it was", 200201, Desks::busy,
                 d -> d.setFlood(20, 2, 1));
         Check.oneAct("first setFlood()", 100502, Desks::fresh, d -> d.setFlood(1, 1, 1));
+    }
+
+    private static void leavesAllElse() {
+        Check.changesOnly("setFlood(20, 50, 50)", Desks::busy, d -> d.setFlood(20, 50, 50));
+        Check.changesOnly("setFlood(60, 1, 0)", Desks::busy, d -> d.setFlood(60, 1, 0));
+        Check.changesOnly("setFlood(1, 50, 50)", Desks::busy, d -> d.setFlood(1, 50, 50),
+                "plant(3)");
     }
 
     private static void floodIsLookedAtByTicksAlone() {

@@ -9,6 +9,7 @@ public final class Promise10TickTest {
         outsideTheRange();
         lastTime();
         isOneAct();
+        leavesAllElse();
         manyTicksAreSingleOnes();
         overHigh();
         overLow();
@@ -63,6 +64,14 @@ public final class Promise10TickTest {
         Check.oneAct("tick(100)", 103, Desks::busy, d -> d.tick(100));
         Check.oneAct("tick(100) of a new desk", 100, Desks::fresh, d -> d.tick(100));
         Check.oneAct("tick(1) at 9999", 10000, () -> at(9999), d -> d.tick(1));
+    }
+
+    private static void leavesAllElse() {
+        Check.changesOnly("tick(1)", Desks::busy, d -> d.tick(1), "plant(0)", "point(2, 11)");
+        Check.changesOnly("tick(1) with another value", Desks::busy, d -> {
+            d.setValue(2, 6);
+            return d.tick(1);
+        }, "plant(0)", "point(2, 7)", "point(2, 11)");
     }
 
     private static void manyTicksAreSingleOnes() {

@@ -85,6 +85,10 @@ public final class Promise12AckTest {
     }
 
     private static void leavesTheOthers() {
+        Check.changesOnly("ack(3)", Desks::busy, d -> d.ack(3), "point(3, 10)", "events()");
+        Check.changesOnly("ack(1)", Desks::busy, d -> d.ack(1), "point(1, 10)", "events()");
+        Check.changesOnly("ack(0) a tick later", Desks::inAlarmAndCounting, d -> d.ack(0),
+                "point(0, 10)", "events()", "meanAck()");
         Desk desk = Desks.inAlarm(16, 2);
         desk.ack(15);
         Check.due("count(7)", desk.count(7), 15);

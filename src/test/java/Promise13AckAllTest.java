@@ -10,6 +10,7 @@ public final class Promise13AckAllTest {
         noneThatIsHidden();
         alsoThoseNoLongerInAlarm();
         isAnAct();
+        leavesAllElse();
         Check.end();
     }
 
@@ -98,5 +99,12 @@ public final class Promise13AckAllTest {
         Check.oneAct("ackAll()", 1, Desks::busy, d -> d.ackAll());
         Check.oneAct("ackAll() of none", 0, Desks::full, d -> d.ackAll());
         Check.oneAct("fourth act", 2, () -> Desks.inAlarm(2, 1), d -> d.ackAll());
+    }
+
+    private static void leavesAllElse() {
+        Check.changesOnly("ackAll()", Desks::busy, d -> d.ackAll(), "point(0, 10)", "events()");
+        Check.changesOnly("ackAll() of none", Desks::full, d -> d.ackAll());
+        Check.changesOnly("ackAll() of two", Desks::inAlarmAndCounting, d -> d.ackAll(),
+                "point(0, 10)", "point(1, 10)", "events()", "meanAck()");
     }
 }

@@ -10,6 +10,7 @@ public final class Promise14ShelveTest {
         shelvedAlready();
         pointsThatDoNotStand();
         isAnAct();
+        leavesAllElse();
         Check.end();
     }
 
@@ -98,5 +99,18 @@ public final class Promise14ShelveTest {
         Check.oneAct("shelve(1, 1000) again", 1003, Desks::busy, d -> d.shelve(1, 1000));
         Check.oneAct("shelve(1, 30) as it was", 33, Desks::busy, d -> d.shelve(1, 30));
         Check.oneAct("second act", 7, () -> Desks.withPoints(1), d -> d.shelve(0, 7));
+    }
+
+    private static void leavesAllElse() {
+        Check.changesOnly("shelve(2, 5)", Desks::busy, d -> d.shelve(2, 5), "point(2, 13)",
+                "events()");
+        Check.changesOnly("shelve(3, 5)", Desks::busy, d -> d.shelve(3, 5), "point(3, 13)",
+                "point(3, 15)", "events()");
+        Check.changesOnly("shelve(1, 31)", Desks::busy, d -> d.shelve(1, 31), "point(1, 13)",
+                "events()");
+        Check.changesOnly("shelve(1, 30) as it was", Desks::busy, d -> d.shelve(1, 30),
+                "events()");
+        Check.changesOnly("shelve(1, 9)", Desks::inAlarmAndCounting, d -> d.shelve(1, 9),
+                "point(1, 13)", "point(1, 15)", "events()");
     }
 }

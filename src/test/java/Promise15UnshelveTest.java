@@ -8,6 +8,7 @@ public final class Promise15UnshelveTest {
         notShelved();
         shelfThatIsOver();
         isAnAct();
+        leavesAllElse();
         Check.end();
     }
 
@@ -65,5 +66,10 @@ public final class Promise15UnshelveTest {
             desk.shelve(0, 2);
             return desk;
         }, d -> d.unshelve(0));
+    }
+
+    private static void leavesAllElse() {
+        Check.changesOnly("unshelve(1)", Desks::busy, d -> d.unshelve(1), "point(1, 13)",
+                "point(1, 15)", "events()");
     }
 }

@@ -25,8 +25,8 @@ public final class Promise17CountTest {
     }
 
     /**
-     * 0 is shown and acknowledged, 1 shelved, 2 hidden in its state, 3 and 6 behind the root 0, 4 in
-     * the flood, 5 shelved without an alarm, 7 no longer in alarm, 8 never was.
+     * 0 is shown and acknowledged, 1 shelved, 2 hidden in its state, 3 and 6 behind the root 0, 4
+     * in the flood, 5 shelved without an alarm, 7 no longer in alarm, 8 never was.
      */
     private static Desk mixed() {
         Desk desk = new Desk();
