@@ -87,6 +87,7 @@ public final class Promise02AddTest {
     private static void leavesTheOthers() {
         Check.changesOnly("add(0, 1)", Desks::busy, d -> d.add(0, 1), "points()");
         Check.changesOnly("add(100, 4)", Desks::busy, d -> d.add(100, 4), "points()");
+        Check.changesOnly("add(0, 2)", Desks::inAlarmAndCounting, d -> d.add(0, 2), "points()");
     }
 
     private static void laterPointBeginsAnew() {

@@ -62,6 +62,11 @@ public final class Promise03SetTest {
             Check.changesOnly("set(2, " + s + ", ..)", Desks::busy, d -> d.set(2, s, MOST[s]),
                     "point(2, " + s + ")");
         }
+        for (int priority = 3; priority <= 4; priority++) {
+            int p = priority;
+            Check.changesOnly("set(1, 5, " + p + ")", Desks::inAlarmAndCounting,
+                    d -> d.set(1, 5, p), "point(1, 5)");
+        }
         Check.changesOnly("set() as it was", Desks::busy, d -> d.set(2, 1, 5));
         Check.changesOnly("set(2, 3, 2)", Desks::busy, d -> d.set(2, 3, 2), "point(2, 3)",
                 "replay(2)");

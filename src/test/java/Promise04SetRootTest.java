@@ -130,6 +130,9 @@ public final class Promise04SetRootTest {
         Check.changesOnly("setRoot(3, -1)", Desks::busy, d -> d.setRoot(3, -1), "point(3, 8)",
                 "point(3, 15)");
         Check.changesOnly("setRoot(2, 0)", Desks::busy, d -> d.setRoot(2, 0), "point(2, 8)");
+        Check.changesOnly("setRoot(1, 0)", Desks::inAlarmAndCounting, d -> d.setRoot(1, 0),
+                "point(1, 8)", "point(1, 15)");
+        Check.changesOnly("setRoot(1, -1)", Desks::inAlarmAndCounting, d -> d.setRoot(1, -1));
         Check.changesOnly("setRoot(3, 0) as it was", Desks::busy, d -> d.setRoot(3, 0));
     }
 }

@@ -63,6 +63,8 @@ public final class Promise05SetValueTest {
                         d -> d.setValue(p, value), "point(" + p + ", 7)");
             }
         }
+        Check.changesOnly("setValue(1, 0)", Desks::inAlarmAndCounting, d -> d.setValue(1, 0),
+                "point(1, 7)");
         Check.changesOnly("setValue(2, 5) as it was", Desks::busy, d -> d.setValue(2, 5));
     }
 

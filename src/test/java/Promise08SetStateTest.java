@@ -38,6 +38,8 @@ public final class Promise08SetStateTest {
         for (int state : new int[] {0, 1, 3}) {
             Check.changesOnly("setState(" + state + ")", Desks::busy, d -> d.setState(state),
                     "plant(1)");
+            Check.changesOnly("setState(" + state + ")", Desks::inAlarmAndCounting,
+                    d -> d.setState(state), state == 0 ? new String[0] : new String[] {"plant(1)"});
         }
         Check.changesOnly("setState(2) as it was", Desks::busy, d -> d.setState(2));
     }

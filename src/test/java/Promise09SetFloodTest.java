@@ -58,6 +58,8 @@ public final class Promise09SetFloodTest {
     private static void leavesAllElse() {
         Check.changesOnly("setFlood(20, 50, 50)", Desks::busy, d -> d.setFlood(20, 50, 50));
         Check.changesOnly("setFlood(60, 1, 0)", Desks::busy, d -> d.setFlood(60, 1, 0));
+        Check.changesOnly("setFlood(60, 1, 0)", Desks::inAlarmAndCounting,
+                d -> d.setFlood(60, 1, 0), "plant(3)");
         Check.changesOnly("setFlood(1, 50, 50)", Desks::busy, d -> d.setFlood(1, 50, 50),
                 "plant(3)");
     }

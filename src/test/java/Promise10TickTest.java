@@ -8,6 +8,7 @@ public final class Promise10TickTest {
         leastAndMost();
         outsideTheRange();
         lastTime();
+        allElseGoesOnAtTheLastTime();
         isOneAct();
         leavesAllElse();
         manyTicksAreSingleOnes();
@@ -57,6 +58,27 @@ public final class Promise10TickTest {
         Check.due("tick(1) at 9999", at(9999).tick(1), 10000);
         Check.refused("tick(1) at 10000", AlarmDesk.STATE, Desks::late, d -> d.tick(1));
         Check.refused("tick(100) at 10000", AlarmDesk.STATE, Desks::late, d -> d.tick(100));
+    }
+
+    private static void allElseGoesOnAtTheLastTime() {
+        Check.oneAct("add() at 10000", 2, Desks::late, d -> d.add(0, 1));
+        Check.oneAct("set() at 10000", 0, Desks::late, d -> d.set(0, 2, 5));
+        Check.oneAct("setRoot() at 10000", -1, Desks::late, d -> d.setRoot(0, 1));
+        Check.oneAct("setValue() at 10000", 0, Desks::late, d -> d.setValue(0, -1));
+        Check.oneAct("setState() at 10000", 0, Desks::late, d -> d.setState(3));
+        Check.oneAct("setFlood() at 10000", 15050, Desks::late, d -> d.setFlood(10, 5, 2));
+        Check.oneAct("ack() at 10000", 9999, Desks::late, d -> d.ack(0));
+        Check.oneAct("ackAll() at 10000", 2, Desks::late, d -> d.ackAll());
+        Check.oneAct("shelve() at 10000", 10001, Desks::late, d -> d.shelve(0, 1));
+        Check.due("run() at 10000", Desks.run(Desks.late(), "state 1;shelve 0:1;ack 0"), 3);
+        Desk desk = Desks.late();
+        desk.shelve(0, 5);
+        Check.due("unshelve() at 10000", desk.unshelve(0), 5);
+        desk.undo();
+        desk.undo();
+        Check.due("undo() of the last tick()", desk.undo(), 1);
+        Check.due("plant(0) after it", desk.plant(0), 9997);
+        Check.due("the time again", desk.tick(3), 10000);
     }
 
     private static void isOneAct() {

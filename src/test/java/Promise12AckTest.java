@@ -89,6 +89,8 @@ public final class Promise12AckTest {
         Check.changesOnly("ack(1)", Desks::busy, d -> d.ack(1), "point(1, 10)", "events()");
         Check.changesOnly("ack(0) a tick later", Desks::inAlarmAndCounting, d -> d.ack(0),
                 "point(0, 10)", "events()", "meanAck()");
+        Check.changesOnly("ack(1) of a point that counts", Desks::inAlarmAndCounting,
+                d -> d.ack(1), "point(1, 10)", "events()", "meanAck()");
         Desk desk = Desks.inAlarm(16, 2);
         desk.ack(15);
         Check.due("count(7)", desk.count(7), 15);
